@@ -24,7 +24,7 @@ public final class SetAsMeant {
     private static final int[] LETTERS = {108, 98, 100, 115, 117, 105};
 
     private final Row[] rows = new Row[ROWS];
-    private final Text[] texts = new Text[TEXTS];
+    private final Row[] texts = new Row[TEXTS];
     private final Reader reader = new Reader();
     private final Press now = new Press();
     private final Press[] kept = new Press[KEPT];
@@ -44,7 +44,7 @@ public final class SetAsMeant {
             rows[r] = new Row(ROW_MOST);
         }
         for (int t = 0; t < texts.length; t++) {
-            texts[t] = new Text();
+            texts[t] = new Row(TEXT_MOST);
         }
         for (int k = 0; k < kept.length; k++) {
             kept[k] = new Press();
@@ -61,7 +61,7 @@ public final class SetAsMeant {
         if (n < 0) {
             return answer(SIZE);
         }
-        row.renew(n);
+        row.renew(n, 0);
         return n;
     }
 
@@ -143,19 +143,19 @@ public final class SetAsMeant {
     }
 
     public int text(int t, int n) {
-        Text text = textOf(t);
+        Row text = textOf(t);
         if (text == null || n > TEXT_MOST) {
             return BAD;
         }
         if (n < 0) {
             return answer(SIZE);
         }
-        text.renew(n);
+        text.renew(n, BLANK);
         return n;
     }
 
     public int put(int t, int i, int v) {
-        Text text = textOf(t);
+        Row text = textOf(t);
         if (text == null) {
             return BAD;
         }
@@ -165,13 +165,13 @@ public final class SetAsMeant {
         if (!text.hasPlace(i)) {
             return answer(BEYOND);
         }
-        int was = text.letter(i);
+        int was = text.cell(i);
         text.change(i, (byte) v);
         return was + 1000;
     }
 
     public int fault(int t) {
-        Text text = textOf(t);
+        Row text = textOf(t);
         if (text == null) {
             return BAD;
         }
@@ -182,7 +182,7 @@ public final class SetAsMeant {
     }
 
     public int press(int t) {
-        Text text = textOf(t);
+        Row text = textOf(t);
         if (text == null) {
             return BAD;
         }
@@ -256,9 +256,8 @@ public final class SetAsMeant {
         if (sheet == null || into == null) {
             return BAD;
         }
-        int against = against(sheet, SHEET_MOST);
-        if (against != 0) {
-            return answer(against);
+        if (refuses(sheet, SHEET_MOST)) {
+            return FINDING;
         }
         into.unpack(now.outOf(sheet, now.onSet()));
         return into.size;
@@ -269,9 +268,8 @@ public final class SetAsMeant {
         if (sheet == null || i < 0) {
             return BAD;
         }
-        int against = against(sheet, SHEET_MOST);
-        if (against != 0) {
-            return answer(against);
+        if (refuses(sheet, SHEET_MOST)) {
+            return FINDING;
         }
         if (!sheet.hasPlace(i)) {
             return answer(BEYOND);
@@ -284,9 +282,8 @@ public final class SetAsMeant {
         if (sheet == null) {
             return BAD;
         }
-        int against = against(sheet, SHEET_MOST);
-        if (against != 0) {
-            return answer(against);
+        if (refuses(sheet, SHEET_MOST)) {
+            return FINDING;
         }
         scratch.unpack(now.outOf(sheet, now.onSet()));
         int longer = Math.max(sheet.size, scratch.size);
@@ -304,9 +301,8 @@ public final class SetAsMeant {
         if (sheet == null || into == null || n < 0 || n > TIMES_MOST) {
             return BAD;
         }
-        int against = against(sheet, SHEET_MOST);
-        if (against != 0) {
-            return answer(against);
+        if (refuses(sheet, SHEET_MOST)) {
+            return FINDING;
         }
         int on = now.onSet();
         scratch.unpack(sheet.pack());
@@ -325,9 +321,8 @@ public final class SetAsMeant {
         if (sheet == null) {
             return BAD;
         }
-        int against = against(sheet, SHEET_MOST);
-        if (against != 0) {
-            return answer(against);
+        if (refuses(sheet, SHEET_MOST)) {
+            return FINDING;
         }
         int on = now.onSet();
         seen[0] = sheet.pack();
@@ -354,9 +349,8 @@ public final class SetAsMeant {
         if (sheet == null || other == null) {
             return BAD;
         }
-        int against = againstEither(sheet, other, SHEET_MOST);
-        if (against != 0) {
-            return answer(against);
+        if (refuses(sheet, SHEET_MOST) || refuses(other, SHEET_MOST)) {
+            return FINDING;
         }
         int on = now.onSet();
         return now.outOf(sheet, on) == now.outOf(other, on) ? 1 : 0;
@@ -369,9 +363,8 @@ public final class SetAsMeant {
         if (out == null || n < 0 || n > WRITTEN_MOST) {
             return BAD;
         }
-        int against = against(out, OUT_MOST);
-        if (against != 0) {
-            return answer(against);
+        if (refuses(out, OUT_MOST)) {
+            return FINDING;
         }
         writings.know(now);
         writings.aim(out.pack(), n, SIGN_SETS - 1);
@@ -402,7 +395,7 @@ public final class SetAsMeant {
         if (alikes.firstTwin == NONE) {
             return NONE;
         }
-        into.renew(0);
+        into.renew(0, 0);
         into.addSheet(alikes.firstTwin, n);
         into.addSheet(alikes.secondTwin, n);
         return 1;
@@ -423,9 +416,8 @@ public final class SetAsMeant {
         if (out == null || into == null || depth < 0 || depth > DEPTH_MOST) {
             return BAD;
         }
-        int against = against(out, OUT_MOST);
-        if (against != 0) {
-            return answer(against);
+        if (refuses(out, OUT_MOST)) {
+            return FINDING;
         }
         writings.know(now);
         long belief = out.pack();
@@ -446,9 +438,8 @@ public final class SetAsMeant {
         if (out == null) {
             return BAD;
         }
-        int against = against(out, OUT_MOST);
-        if (against != 0) {
-            return answer(against);
+        if (refuses(out, OUT_MOST)) {
+            return FINDING;
         }
         if (out.size == 0) {
             return NONE;
@@ -473,9 +464,8 @@ public final class SetAsMeant {
         if (sheet == null || out == null) {
             return BAD;
         }
-        int against = againstEither(sheet, out, OUT_MOST);
-        if (against != 0) {
-            return answer(against);
+        if (refuses(sheet, SHEET_MOST) || refuses(out, OUT_MOST)) {
+            return FINDING;
         }
         int on = now.onSet();
         long aim = out.pack();
@@ -501,9 +491,8 @@ public final class SetAsMeant {
         if (sheet == null || out == null) {
             return BAD;
         }
-        int against = againstEither(sheet, out, OUT_MOST);
-        if (against != 0) {
-            return answer(against);
+        if (refuses(sheet, SHEET_MOST) || refuses(out, OUT_MOST)) {
+            return FINDING;
         }
         long aim = out.pack();
         int many = 0;
@@ -525,9 +514,8 @@ public final class SetAsMeant {
         if (law == null || sheet == null || out == null) {
             return BAD;
         }
-        int against = againstEither(sheet, out, OUT_MOST);
-        if (against != 0) {
-            return answer(against);
+        if (refuses(sheet, SHEET_MOST) || refuses(out, OUT_MOST)) {
+            return FINDING;
         }
         int on = now.onSet();
         long aim = out.pack();
@@ -551,9 +539,8 @@ public final class SetAsMeant {
         if (sheet == null || out == null || p < 0 || p > PARTS) {
             return BAD;
         }
-        int against = againstEither(sheet, out, OUT_MOST);
-        if (against != 0) {
-            return answer(against);
+        if (refuses(sheet, SHEET_MOST) || refuses(out, OUT_MOST)) {
+            return FINDING;
         }
         int on = now.onSet();
         long aim = out.pack();
@@ -575,9 +562,8 @@ public final class SetAsMeant {
         if (sheet == null || p < 0 || p > PARTS) {
             return BAD;
         }
-        int against = against(sheet, SHEET_MOST);
-        if (against != 0) {
-            return answer(against);
+        if (refuses(sheet, SHEET_MOST)) {
+            return FINDING;
         }
         int on = now.onSet();
         long sum = 0;
@@ -600,9 +586,8 @@ public final class SetAsMeant {
         if (sheet == null) {
             return BAD;
         }
-        int against = against(sheet, SHEET_MOST);
-        if (against != 0) {
-            return answer(against);
+        if (refuses(sheet, SHEET_MOST)) {
+            return FINDING;
         }
         if (now.done >= DEEDS) {
             return FULL;
@@ -649,7 +634,7 @@ public final class SetAsMeant {
         for (int i = 0; i < n; i++) {
             lot = lotAfter(lot);
             int signs = (int) (lot % 9);
-            scratch.renew(0);
+            scratch.renew(0, 0);
             for (int j = 0; j < signs; j++) {
                 lot = lotAfter(lot);
                 scratch.add((int) (lot / 16 % SIGNS));
@@ -712,9 +697,9 @@ public final class SetAsMeant {
             case 5:
                 return now.lawsOfKind(SHY);
             case 6:
-                return rowsThere();
+                return manyThere(rows);
             case 7:
-                return textsThere();
+                return manyThere(texts);
             case 8:
                 return pressesKept();
             default:
@@ -757,7 +742,7 @@ public final class SetAsMeant {
         return r >= 0 && r < rows.length ? rows[r] : null;
     }
 
-    private Text textOf(int t) {
+    private Row textOf(int t) {
         return t >= 0 && t < texts.length ? texts[t] : null;
     }
 
@@ -769,20 +754,18 @@ public final class SetAsMeant {
         return FINDING;
     }
 
-    /** The FINDING that speaks against reading a ROW as so many SIGNS at most; 0: none does. */
-    private static int against(Row row, int most) {
+    /** Whether a ROW can't be read as so many SIGNS at most; the FINDING is answered then. */
+    private boolean refuses(Row row, int most) {
         if (!row.isThere()) {
-            return NOTHING;
+            answer(NOTHING);
+        } else if (row.size > most) {
+            answer(SIZE);
+        } else if (!row.holdsSigns()) {
+            answer(UNLIKE);
+        } else {
+            return false;
         }
-        if (row.size > most) {
-            return SIZE;
-        }
-        return row.holdsSigns() ? 0 : UNLIKE;
-    }
-
-    private static int againstEither(Row sheet, Row other, int most) {
-        int against = against(sheet, SHEET_MOST);
-        return against != 0 ? against : against(other, most);
+        return true;
     }
 
     private int placeSeen(long out, int times) {
@@ -826,18 +809,10 @@ public final class SetAsMeant {
         return lot * 48271 % 2147483647L;
     }
 
-    private int rowsThere() {
+    private static int manyThere(Row[] all) {
         int many = 0;
-        for (int r = 0; r < rows.length; r++) {
-            many += rows[r].isThere() ? 1 : 0;
-        }
-        return many;
-    }
-
-    private int textsThere() {
-        int many = 0;
-        for (int t = 0; t < texts.length; t++) {
-            many += texts[t].isThere() ? 1 : 0;
+        for (int i = 0; i < all.length; i++) {
+            many += all[i].isThere() ? 1 : 0;
         }
         return many;
     }
@@ -866,7 +841,7 @@ public final class SetAsMeant {
         return many;
     }
 
-    /** A row of ints; one array serves it for good, so that no call makes a new one. */
+    /** A ROW or a TEXT; one array serves it for good, so that no call makes a new one. */
     private static final class Row {
         private final int[] cells;
         private int size = MISSING;
@@ -906,11 +881,9 @@ public final class SetAsMeant {
             size = MISSING;
         }
 
-        void renew(int n) {
+        void renew(int n, int v) {
             size = Math.min(Math.max(n, 0), cells.length);
-            for (int i = 0; i < size; i++) {
-                cells[i] = 0;
-            }
+            Arrays.fill(cells, v);
         }
 
         void add(int v) {
@@ -959,7 +932,7 @@ public final class SetAsMeant {
 
         void unpack(long signs) {
             int many = signsIn(signs);
-            renew(0);
+            renew(0, 0);
             for (int i = many - 1; i >= 0; i--) {
                 add((int) (signs >> 3 * i & 7) - 1);
             }
@@ -969,43 +942,6 @@ public final class SetAsMeant {
             long h = 31 * before + size;
             for (int i = 0; i < size; i++) {
                 h = 31 * h + cell(i);
-            }
-            return h;
-        }
-    }
-
-    /** A row of bytes, likewise. */
-    private static final class Text {
-        private final byte[] bytes = new byte[TEXT_MOST];
-        private int size = MISSING;
-
-        boolean isThere() {
-            return size >= 0;
-        }
-
-        boolean hasPlace(int i) {
-            return i >= 0 && i < size && i < bytes.length;
-        }
-
-        int letter(int i) {
-            return hasPlace(i) ? bytes[i] : NONE;
-        }
-
-        void change(int i, byte v) {
-            if (hasPlace(i)) {
-                bytes[i] = v;
-            }
-        }
-
-        void renew(int n) {
-            size = Math.min(Math.max(n, 0), bytes.length);
-            Arrays.fill(bytes, (byte) BLANK);
-        }
-
-        long digested(long before) {
-            long h = 31 * before + size;
-            for (int i = 0; i < size; i++) {
-                h = 31 * h + letter(i);
             }
             return h;
         }
@@ -1086,13 +1022,13 @@ public final class SetAsMeant {
         }
 
         /** The first place at which the TEXT can't go on as LAWS; NONE: it can. */
-        int read(Text text) {
+        int read(Row text) {
             size = 0;
             for (int i = 0; i < text.size; i++) {
-                if (text.letter(i) == BLANK) {
+                if (text.cell(i) == BLANK) {
                     continue;
                 }
-                int kind = kindOf(text.letter(i));
+                int kind = kindOf(text.cell(i));
                 if (kind == NONE || size >= items.length) {
                     return i;
                 }
@@ -1127,8 +1063,8 @@ public final class SetAsMeant {
             return kind == SHY || kind == SLY ? 3 : 2;
         }
 
-        private static int signAt(Text text, int i) {
-            int sign = text.letter(i) - FIRST_SIGN;
+        private static int signAt(Row text, int i) {
+            int sign = text.cell(i) - FIRST_SIGN;
             return sign >= 0 && sign < SIGNS ? sign : NONE;
         }
     }
