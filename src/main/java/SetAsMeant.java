@@ -10,7 +10,7 @@ public final class SetAsMeant {
     private static final int ROW_MOST = 40, TEXT_MOST = 60;
     private static final int SIGNS = 6, SIGN_SETS = 64, LAW_SETS = 256;
     private static final int SHEET_MOST = 8, OUT_MOST = 16;
-    private static final int WRITTEN_MOST = 6, ALIKE_MOST = 4, ALIKE_SHEETS = 1296;
+    private static final int WRITTEN_MOST = 6, SHORT_MOST = 4, SHORT_SHEETS = 1296;
     /** SLOTS is a power of two, SPREAD odd: see Alikes. */
     private static final int SLOTS = 2048, SPREAD = -1640531535;
     private static final int TIMES_MOST = 9, REST_TIMES = 60, DEPTH_MOST = 3, PARTS = 12;
@@ -22,6 +22,9 @@ public final class SetAsMeant {
     private static final int ROUNDS = 200;
     /** The letters of the KINDS, by the KINDS' numbers. */
     private static final int[] LETTERS = {108, 98, 100, 115, 117, 105};
+    /** Sets of SIGNS are 0 to 63, so a long is a set of them: here all that have a SIGN, by SIGNS. */
+    private static final long[] HAVING = {0xAAAAAAAAAAAAAAAAL, 0xCCCCCCCCCCCCCCCCL, 0xF0F0F0F0F0F0F0F0L,
+        0xFF00FF00FF00FF00L, 0xFFFF0000FFFF0000L, 0xFFFFFFFF00000000L};
 
     private final Row[] rows = new Row[ROWS];
     private final Row[] texts = new Row[TEXTS];
@@ -31,7 +34,8 @@ public final class SetAsMeant {
     private final Writings writings = new Writings();
     private final Alikes alikes = new Alikes();
     private final Row scratch = new Row(OUT_MOST);
-    private final Law trial = new Law();
+    private final Trial trial = new Trial();
+    private final Law spare = new Law();
     private final long[] seen = new long[REST_TIMES + 1];
     private final int[] answered = new int[SIZE + 1];
     private int latest = 0;
@@ -367,7 +371,7 @@ public final class SetAsMeant {
             return FINDING;
         }
         writings.know(now);
-        writings.aim(out.pack(), n, SIGN_SETS - 1);
+        writings.aim(out.pack(), n);
         tell(writings.many(n), 1);
         return 1;
     }
@@ -377,7 +381,7 @@ public final class SetAsMeant {
     }
 
     public int outs(int n) {
-        if (n < 0 || n > ALIKE_MOST) {
+        if (n < 0 || n > SHORT_MOST) {
             return BAD;
         }
         writings.know(now);
@@ -387,7 +391,7 @@ public final class SetAsMeant {
 
     public int twins(int n, int r) {
         Row into = rowOf(r);
-        if (into == null || n < 0 || n > ALIKE_MOST) {
+        if (into == null || n < 0 || n > SHORT_MOST) {
             return BAD;
         }
         writings.know(now);
@@ -441,18 +445,18 @@ public final class SetAsMeant {
         if (refuses(out, OUT_MOST)) {
             return FINDING;
         }
-        if (out.size == 0) {
-            return NONE;
-        }
         writings.know(now);
-        long aim = out.pack();
-        int fewest = SIGNS;
-        int least = SIGN_SETS - 1;
+        long used = writings.usedFor(out.pack());
+        int fewest = SIGNS + 1;
+        int least = NONE;
         for (int signs = 0; signs < SIGN_SETS; signs++) {
-            if (Integer.bitCount(signs) < fewest && !writings.canWrite(aim, SIGN_SETS - 1 - signs)) {
+            if (Integer.bitCount(signs) < fewest && (used & setsWithout(signs)) == 0) {
                 fewest = Integer.bitCount(signs);
                 least = signs;
             }
+        }
+        if (least == NONE) {
+            return NONE;
         }
         told = least;
         return fewest;
@@ -471,9 +475,10 @@ public final class SetAsMeant {
         long aim = out.pack();
         int fewest = LAWS + 1;
         int least = NONE;
+        trial.lie(sheet, now);
         for (int laws = 0; laws < LAW_SETS; laws++) {
             if ((laws & on) == laws && Integer.bitCount(laws) < fewest
-                    && now.outOf(sheet, on - laws) == aim) {
+                    && trial.outBy(on - laws) == aim) {
                 fewest = Integer.bitCount(laws);
                 least = laws;
             }
@@ -497,8 +502,9 @@ public final class SetAsMeant {
         long aim = out.pack();
         int many = 0;
         int least = NONE;
+        trial.lie(sheet, now);
         for (int laws = 0; laws < 1 << now.size; laws++) {
-            if (now.outOf(sheet, laws) == aim) {
+            if (trial.outBy(laws) == aim) {
                 least = many == 0 ? laws : least;
                 many++;
             }
@@ -520,14 +526,14 @@ public final class SetAsMeant {
         int on = now.onSet();
         long aim = out.pack();
         int fit = 0;
-        trial.take(law);
+        spare.take(law);
         for (int kind = 0; kind < KINDS; kind++) {
-            law.become(kind, trial.x, Math.max(trial.y, 0), Math.max(trial.z, 0));
+            law.become(kind, spare.x, Math.max(spare.y, 0), Math.max(spare.z, 0));
             if (now.outOf(sheet, on) == aim) {
                 fit |= 1 << kind;
             }
         }
-        law.take(trial);
+        law.take(spare);
         return fit;
     }
 
@@ -546,10 +552,11 @@ public final class SetAsMeant {
         long aim = out.pack();
         long sum = 0;
         long whole = 0;
+        trial.lie(sheet, now);
         for (int failing = 0; failing < LAW_SETS; failing++) {
             long weight = weight(on, failing, p);
             whole += weight;
-            if (weight > 0 && now.outOf(sheet, on - failing) == aim) {
+            if (weight > 0 && trial.outBy(on - failing) == aim) {
                 sum += weight;
             }
         }
@@ -568,11 +575,12 @@ public final class SetAsMeant {
         int on = now.onSet();
         long sum = 0;
         long whole = 0;
+        trial.lie(sheet, now);
         for (int failing = 0; failing < LAW_SETS; failing++) {
             long weight = weight(on, failing, p);
             whole += weight;
             if (weight > 0) {
-                sum += weight * signsIn(now.outOf(sheet, on - failing));
+                sum += weight * signsIn(trial.outBy(on - failing));
             }
         }
         tell(sum, whole);
@@ -777,6 +785,15 @@ public final class SetAsMeant {
         return NONE;
     }
 
+    /** All sets of SIGNS, by bits, that have none of these. */
+    private static long setsWithout(int signs) {
+        long sets = -1L;
+        for (int sign = 0; sign < HAVING.length; sign++) {
+            sets &= (signs >> sign & 1) == 1 ? ~HAVING[sign] : -1L;
+        }
+        return sets;
+    }
+
     /** How many of all chances fall to just these LAWS failing; 0: some of them are not ON. */
     private static long weight(int on, int failing, int p) {
         if ((failing & on) != failing) {
@@ -835,8 +852,8 @@ public final class SetAsMeant {
 
     private static int signsIn(long signs) {
         int many = 0;
-        for (int i = 0; i < OUT_MOST; i++) {
-            many += (signs >> 3 * i & 7) == 0 ? 0 : 1;
+        for (long rest = signs; rest != 0 && many < OUT_MOST; rest >>= 3) {
+            many++;
         }
         return many;
     }
@@ -896,7 +913,7 @@ public final class SetAsMeant {
         /** Adds the sheet of n signs that has so many others of its size ahead of it. */
         void addSheet(int number, int n) {
             int place = 1;
-            for (int i = 1; i < n && i < ALIKE_MOST; i++) {
+            for (int i = 1; i < n && i < SHORT_MOST; i++) {
                 place *= SIGNS;
             }
             for (int i = 0; i < n && place > 0; i++) {
@@ -1143,6 +1160,15 @@ public final class SetAsMeant {
             return many;
         }
 
+        /** The LAWS, by bits, that hold of a sign. */
+        int holding(int sign, int next) {
+            int holding = 0;
+            for (int k = 0; k < size; k++) {
+                holding |= laws[k].holds(sign, next) ? 1 << k : 0;
+            }
+            return holding;
+        }
+
         /** The LAW by which a sign is set, were just these LAWS ON; NONE: by none. */
         int chosen(int sign, int next, int on) {
             for (int k = 0; k < size; k++) {
@@ -1225,6 +1251,34 @@ public final class SetAsMeant {
         }
     }
 
+    /** A SHEET under a PRESS, with what holds at each place: so sets of LAWS are tried on it fast. */
+    private static final class Trial {
+        private final int[] signs = new int[SHEET_MOST];
+        private final int[] holding = new int[SHEET_MOST];
+        private int size = 0;
+        private Press press = null;
+
+        void lie(Row sheet, Press under) {
+            press = under;
+            size = Math.min(sheet.size, signs.length);
+            for (int i = 0; i < size; i++) {
+                signs[i] = sheet.cell(i);
+                holding[i] = under.holding(sheet.cell(i), sheet.behind(i));
+            }
+        }
+
+        long outBy(int on) {
+            long out = 0;
+            for (int i = 0; i < size && press != null; i++) {
+                int able = holding[i] & on;
+                // the ones below the lowest bit are as many as its place; all, so no LAW, if there is none
+                Law law = press.numbered(Integer.bitCount((able & -able) - 1));
+                out = law == null ? packed(out, signs[i]) : law.after(out);
+            }
+            return out;
+        }
+    }
+
     /**
      * All sheets of a size at once. What a sign is set as hangs on it and the one behind it alone,
      * so ends of sheets are counted by their first sign and the place of the aim they start at.
@@ -1232,7 +1286,8 @@ public final class SetAsMeant {
     private static final class Writings {
         private final long[] pieces = new long[SIGNS * (SIGNS + 1)];
         private final int[] sizes = new int[SIGNS * (SIGNS + 1)];
-        private final int[] ways = new int[(WRITTEN_MOST + 1) * SIGNS * (OUT_MOST + 1)];
+        /** How many ends, or the sets that they are written in. */
+        private final long[] ways = new long[(WRITTEN_MOST + 1) * SIGNS * (OUT_MOST + 1)];
         private final int[] ends = new int[(WRITTEN_MOST + 1) * SIGNS];
         private long aim = 0;
         private int aimSize = 0;
@@ -1253,15 +1308,14 @@ public final class SetAsMeant {
             return piece >= 0 && piece < SIGNS * (SIGNS + 1) ? piece : 0;
         }
 
-        /** Counts the ends of up to n signs, all of a set, by which the aim's ends come out. */
-        void aim(long out, int n, int allowed) {
+        /** Counts the ends of up to n signs by which the aim's ends come out. */
+        void aim(long out, int n) {
             aim = out;
             aimSize = signsIn(out);
             for (int size = 1; size <= n && size <= WRITTEN_MOST; size++) {
                 for (int sign = 0; sign < SIGNS; sign++) {
-                    boolean may = (allowed >> sign & 1) == 1;
                     for (int place = 0; place <= aimSize; place++) {
-                        ways[wayOf(size, sign, place)] = may ? waysFrom(size, sign, place) : 0;
+                        ways[wayOf(size, sign, place)] = waysFrom(size, sign, place);
                     }
                 }
             }
@@ -1272,11 +1326,11 @@ public final class SetAsMeant {
             return way >= 0 && way < (WRITTEN_MOST + 1) * SIGNS * (OUT_MOST + 1) ? way : 0;
         }
 
-        private int waysFrom(int size, int sign, int place) {
+        private long waysFrom(int size, int sign, int place) {
             if (size == 1) {
                 return placeAfter(sign, END, place) == aimSize ? 1 : 0;
             }
-            int many = 0;
+            long many = 0;
             for (int next = 0; next < SIGNS; next++) {
                 int after = placeAfter(sign, next, place);
                 many += after == NONE ? 0 : ways[wayOf(size - 1, next, after)];
@@ -1296,30 +1350,49 @@ public final class SetAsMeant {
         }
 
         /** How many sheets of n signs come out as the aim. */
-        int many(int n) {
+        long many(int n) {
             if (n == 0) {
                 return aimSize == 0 ? 1 : 0;
             }
-            int many = 0;
+            long many = 0;
             for (int sign = 0; sign < SIGNS; sign++) {
                 many += ways[wayOf(n, sign, 0)];
             }
             return many;
         }
 
-        boolean canWrite(long out, int allowed) {
-            aim(out, ALIKE_MOST, allowed);
-            for (int n = 0; n <= ALIKE_MOST; n++) {
-                if (many(n) > 0) {
-                    return true;
+        /** The sets of SIGNS, by bits, that sheets of up to 4 signs are written in and come out so. */
+        long usedFor(long out) {
+            aim = out;
+            aimSize = signsIn(out);
+            long sets = aimSize == 0 ? 1 : 0;
+            for (int size = 1; size <= SHORT_MOST; size++) {
+                for (int sign = 0; sign < SIGNS; sign++) {
+                    for (int place = 0; place <= aimSize; place++) {
+                        ways[wayOf(size, sign, place)] = usedFrom(size, sign, place);
+                    }
+                    sets |= ways[wayOf(size, sign, 0)];
                 }
             }
-            return false;
+            return sets;
+        }
+
+        private long usedFrom(int size, int sign, int place) {
+            long sets = size == 1 && placeAfter(sign, END, place) == aimSize ? 1 : 0;
+            for (int next = 0; next < SIGNS && size > 1; next++) {
+                int after = placeAfter(sign, next, place);
+                sets |= after == NONE ? 0 : ways[wayOf(size - 1, next, after)];
+            }
+            return sign < HAVING.length ? withSign(sets, sign, HAVING[sign]) : sets;
+        }
+
+        private static long withSign(long sets, int sign, long having) {
+            return sets & having | (sets & ~having) << (1 << sign);
         }
 
         /** The first sheet that comes out so, packed; NONE: there is none. */
         long earliest(long out) {
-            aim(out, WRITTEN_MOST, SIGN_SETS - 1);
+            aim(out, WRITTEN_MOST);
             for (int n = 0; n <= WRITTEN_MOST; n++) {
                 if (many(n) > 0) {
                     return earliestOf(n);
@@ -1403,7 +1476,7 @@ public final class SetAsMeant {
 
     /** Sheets of one size that come out alike, found by a table of what came out so far. */
     private static final class Alikes {
-        private final long[] outs = new long[ALIKE_SHEETS];
+        private final long[] outs = new long[SHORT_SHEETS];
         /** Numbers of sheets and 1 more; 0: free. */
         private final int[] slots = new int[SLOTS];
         private int unlike = 0;
@@ -1416,7 +1489,7 @@ public final class SetAsMeant {
             firstTwin = NONE;
             secondTwin = NONE;
             int many = 1;
-            for (int i = 0; i < n && i < ALIKE_MOST; i++) {
+            for (int i = 0; i < n && i < SHORT_MOST; i++) {
                 many *= SIGNS;
             }
             for (int number = 0; number < many && number < outs.length; number++) {

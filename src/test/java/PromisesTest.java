@@ -286,6 +286,10 @@ public final class PromisesTest {
         due("ROW 0 on itself, up", signs(x, 0), "AABCD");
         due("copy(0, 2, 0, 0, 3)", x.copy(0, 2, 0, 0, 3), 1);
         due("ROW 0 on itself, down", signs(x, 0), "BCDCD");
+        sheet(x, 2, "EDCBA");
+        due("all of it", x.copy(2, 0, 0, 0, 5), 1);
+        due("ROW 0, all of it", signs(x, 0), "EDCBA");
+        x.tear(2);
         due("none, at both ends", x.copy(0, 5, 1, 4, 0), 1);
         due("ROW 1 stays", signs(x, 1), "FFBC");
         bad(x, "copy(-1, 0, 0, 0, 0)", () -> x.copy(-1, 0, 0, 0, 0));
@@ -851,7 +855,13 @@ public final class PromisesTest {
         outsOf("bAbBbCbDbEbF", 1, 1, 1, 1, 1);
         outsOf("lAFlBFlCFlDFlEF", 1, 1, 1, 1, 1);
         outsOf("dFF bA bB bC bD bE", 1, 2, 3, 4, 5);
-        SetAsMeant x = pressOf("lAB");
+        outsOf("sABC", 1, 6, 35, 204, 1189);
+        SetAsMeant x = new SetAsMeant();
+        due("outs(4) without LAWS", x.outs(4), 1296);
+        textOf(x, 0, "lAB");
+        x.press(0);
+        due("outs(3) behind it", x.outs(3), 125);
+        due("outs(1) behind it", x.outs(1), 5);
         bad(x, "outs(-1)", () -> x.outs(-1));
         bad(x, "outs(5)", () -> x.outs(5));
     }
@@ -885,7 +895,14 @@ public final class PromisesTest {
         twinsOf("bA bC", 1, "AC");
         twinsOf("dAB", 4, null);
         twinsOf("uABC", 2, "AAAB");
+        twinsOf("sABC", 2, "ACBC");
         SetAsMeant x = pressOf("lAB");
+        due("twins(4, 0)", x.twins(4, 0), 1);
+        due("twins(1, 0) behind it", x.twins(1, 0), 1);
+        due("they", signs(x, 0), "AB");
+        x.hush(0, 1);
+        still(x, "none behind it", NONE, () -> x.twins(1, 0));
+        still(x, "none of 4 behind it", NONE, () -> x.twins(4, 0));
         bad(x, "twins(-1, 0)", () -> x.twins(-1, 0));
         bad(x, "twins(5, 0)", () -> x.twins(5, 0));
         bad(x, "twins(1, 6)", () -> x.twins(1, 6));
@@ -1450,6 +1467,8 @@ public final class PromisesTest {
         for (int what = 0; what < want.length; what++) {
             due("count(" + what + ")", x.count(what), want[what]);
         }
+        due("a DOUBLE one that is the first", pressOf("iAB").count(4), 1);
+        due("a SHY one that is the first", pressOf("uABC").count(5), 1);
         bad(x, "count(-1)", () -> x.count(-1));
         bad(x, "count(9)", () -> x.count(9));
     }
@@ -1508,7 +1527,9 @@ public final class PromisesTest {
         sheet(x, 1, "CA");
         x.print(1);
         x.keep(2);
+        sheet(x, 1, "FE");
         x.print(1);
+        sheet(x, 1, "CA");
         x.lay(1, 0, -5);
         x.row(4, 0);
         x.text(3, 1);
@@ -1517,9 +1538,9 @@ public final class PromisesTest {
             2, 1, 2, 4, 0, 1, 2, 2, 1,
             1, 2, -9, -9, 0,
             4, 0, 1, 5, 1,
-            0, 2, 2, 0, 0, 0,
+            0, 1, 1, 0, 1, 1,
             2, 2, 1,
-            2, 2, 1,
+            2, 5, 4,
             -1, -1, 1,
             -1, 2, -5, 0, -1, -1, 0, -1,
             -1, -1, 7, 98, 67, 32, 117, 65, 66, 70, 1, -1));
