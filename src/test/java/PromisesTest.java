@@ -992,6 +992,9 @@ public final class PromisesTest {
         forbidOf("dAB", "ABABABABA", 0, 0);
         forbidOf("lEB lFA", "ABAB", 2, 18);
         forbidOf("bC", "A", 1, 1);
+        forbidOf("sABC bC", "B", 2, 3);
+        forbidOf("uABC bD", "B", 2, 3);
+        forbidOf("lAC sBCA bA", "CA", 0, 0);
         SetAsMeant x = pressOf("bA");
         x.row(0, 1);
         x.lay(0, 0, 3);
