@@ -1,15 +1,7 @@
-import java.util.Arrays;
 import java.util.function.IntSupplier;
 
 /** Each promise by itself: ordinary inputs, the edges that the document names, and wrong inputs. */
-public final class PromisesTest {
-    private static final int BAD = -1, FULL = -2, FINDING = -3, STATE = -4, SPENT = -6, NONE = -9;
-    private static final int NOTHING = 1, BEYOND = 2, UNLIKE = 3, NOUGHT = 4, SIZE = 5;
-    private static final int MIN = Integer.MIN_VALUE, MAX = Integer.MAX_VALUE;
-
-    private static int promise = 0;
-    private static int wrong = 0;
-
+public final class PromisesTest extends Bench {
     public static void main(String[] args) {
         newObject();
         row();
@@ -56,93 +48,10 @@ public final class PromisesTest {
         count();
         finding();
         digest();
-        System.out.println(wrong == 0 ? "all answers are as due" : wrong + " answers are not as due");
-        if (wrong != 0) {
-            System.exit(1);
-        }
+        end();
     }
 
     // ---- the tools
-
-    private static void due(String what, long got, long want) {
-        if (got != want) {
-            wrong++;
-            System.out.println("promise " + promise + ": " + what + " answered " + got + ", due is " + want);
-        }
-    }
-
-    private static void due(String what, String got, String want) {
-        if (!got.equals(want)) {
-            wrong++;
-            System.out.println("promise " + promise + ": " + what + " is " + got + ", due is " + want);
-        }
-    }
-
-    private static long[] state(SetAsMeant x) {
-        long[] s = {x.digest(), x.asked(), x.upper(), x.lower(), x.finding(),
-            x.findings(1), x.findings(2), x.findings(3), x.findings(4), x.findings(5)};
-        return s;
-    }
-
-    /** The call answers so, and changes nothing at all. */
-    private static void still(SetAsMeant x, String what, int want, IntSupplier call) {
-        long[] before = state(x);
-        due(what, call.getAsInt(), want);
-        if (!Arrays.equals(before, state(x))) {
-            wrong++;
-            System.out.println("promise " + promise + ": " + what + " changed what it mustn't");
-        }
-    }
-
-    private static void bad(SetAsMeant x, String what, IntSupplier call) {
-        still(x, what, BAD, call);
-    }
-
-    /** The call answers FINDING, and changes nothing but finding(), findings(). */
-    private static void found(SetAsMeant x, String what, int finding, IntSupplier call) {
-        long[] before = state(x);
-        due(what, call.getAsInt(), FINDING);
-        due(what + ", finding()", x.finding(), finding);
-        before[4] = finding;
-        before[4 + finding]++;
-        if (!Arrays.equals(before, state(x))) {
-            wrong++;
-            System.out.println("promise " + promise + ": " + what + " changed what it mustn't");
-        }
-    }
-
-    private static SetAsMeant textOf(SetAsMeant x, int t, String s) {
-        x.text(t, s.length());
-        for (int i = 0; i < s.length(); i++) {
-            x.put(t, i, s.charAt(i));
-        }
-        return x;
-    }
-
-    /** A new object with a PRESS, and with TEXT 0 that it was made by. */
-    private static SetAsMeant pressOf(String s) {
-        SetAsMeant x = textOf(new SetAsMeant(), 0, s);
-        if (x.press(0) < 0) {
-            throw new IllegalArgumentException(s);
-        }
-        return x;
-    }
-
-    private static SetAsMeant sheet(SetAsMeant x, int r, String signs) {
-        x.row(r, signs.length());
-        for (int i = 0; i < signs.length(); i++) {
-            x.lay(r, i, signs.charAt(i) - 'A');
-        }
-        return x;
-    }
-
-    private static String signs(SetAsMeant x, int r) {
-        StringBuilder s = new StringBuilder();
-        for (int i = 0; x.at(r, i) == 1; i++) {
-            s.append((char) ('A' + x.asked()));
-        }
-        return s.toString();
-    }
 
     /** ROW r: missing, too long, of no SIGN, in the document's order; all else of the call is right. */
     private static void refusesNoSheet(SetAsMeant x, String what, int r, int most, IntSupplier call) {
@@ -169,7 +78,7 @@ public final class PromisesTest {
     // ---- 1 rows, texts, presses
 
     private static void newObject() {
-        promise = 1;
+        where = "promise 1";
         SetAsMeant x = new SetAsMeant();
         for (int what = 0; what <= 8; what++) {
             due("count(" + what + ")", x.count(what), 0);
@@ -193,7 +102,7 @@ public final class PromisesTest {
     }
 
     private static void row() {
-        promise = 2;
+        where = "promise 2";
         SetAsMeant x = new SetAsMeant();
         due("row(0, 3)", x.row(0, 3), 3);
         due("its ints", signs(x, 0), "AAA");
@@ -218,7 +127,7 @@ public final class PromisesTest {
     }
 
     private static void lay() {
-        promise = 3;
+        where = "promise 3";
         SetAsMeant x = new SetAsMeant();
         x.row(2, 40);
         due("lay(2, 39, MIN)", x.lay(2, 39, MIN), 1);
@@ -242,7 +151,7 @@ public final class PromisesTest {
     }
 
     private static void at() {
-        promise = 4;
+        where = "promise 4";
         SetAsMeant x = new SetAsMeant();
         x.row(1, 2);
         x.lay(1, 1, -77);
@@ -261,7 +170,7 @@ public final class PromisesTest {
     }
 
     private static void tear() {
-        promise = 5;
+        where = "promise 5";
         SetAsMeant x = new SetAsMeant();
         x.row(0, 2);
         x.row(5, 0);
@@ -275,7 +184,7 @@ public final class PromisesTest {
     }
 
     private static void copy() {
-        promise = 6;
+        where = "promise 6";
         SetAsMeant x = new SetAsMeant();
         sheet(x, 0, "ABCDE");
         sheet(x, 1, "FFFF");
@@ -308,7 +217,7 @@ public final class PromisesTest {
     }
 
     private static void mean() {
-        promise = 7;
+        where = "promise 7";
         SetAsMeant x = new SetAsMeant();
         x.row(0, 3);
         x.lay(0, 0, 8);
@@ -335,7 +244,7 @@ public final class PromisesTest {
     }
 
     private static void text() {
-        promise = 8;
+        where = "promise 8";
         SetAsMeant x = new SetAsMeant();
         due("text(0, 2)", x.text(0, 2), 2);
         due("its first blank", x.put(0, 0, 65), 1032);
@@ -353,7 +262,7 @@ public final class PromisesTest {
     }
 
     private static void put() {
-        promise = 9;
+        where = "promise 9";
         SetAsMeant x = new SetAsMeant();
         x.text(1, 60);
         due("put(1, 59, 200)", x.put(1, 59, 200), 1032);
@@ -376,7 +285,7 @@ public final class PromisesTest {
     }
 
     private static void fault() {
-        promise = 10;
+        where = "promise 10";
         faultOf("", NONE);
         faultOf("    ", NONE);
         faultOf("lAB", NONE);
@@ -419,7 +328,7 @@ public final class PromisesTest {
     }
 
     private static void press() {
-        promise = 11;
+        where = "promise 11";
         SetAsMeant x = textOf(new SetAsMeant(), 0, " lAB bC ");
         textOf(x, 1, "lAB bC x");
         x.text(2, 0);
@@ -450,15 +359,8 @@ public final class PromisesTest {
         due("a PRESS stays when its TEXT changes", x.asked(), 1);
     }
 
-    private static void lawIs(SetAsMeant x, int k, int... want) {
-        for (int what = 0; what < want.length; what++) {
-            due("law(" + k + ", " + what + ")", x.law(k, what), 1);
-            due("law(" + k + ", " + what + ") asked()", x.asked(), want[what]);
-        }
-    }
-
     private static void law() {
-        promise = 12;
+        where = "promise 12";
         SetAsMeant x = pressOf("lAB bC dDE sEFA uBAC iFA");
         x.hush(2, 1);
         lawIs(x, 0, 0, 0, 1, NONE, 1);
@@ -476,7 +378,7 @@ public final class PromisesTest {
     }
 
     private static void mark() {
-        promise = 13;
+        where = "promise 13";
         SetAsMeant x = pressOf("lAB bC dDE sEFA uBAC iFA");
         String kinds = "lbdsui";
         boolean[][] is = new boolean[6][6];
@@ -551,7 +453,7 @@ public final class PromisesTest {
     }
 
     private static void hush() {
-        promise = 14;
+        where = "promise 14";
         SetAsMeant x = pressOf("lAB bC");
         due("hush(1, 1)", x.hush(1, 1), 0);
         due("hush(1, 1) again", x.hush(1, 1), 1);
@@ -570,7 +472,7 @@ public final class PromisesTest {
     }
 
     private static void swap() {
-        promise = 15;
+        where = "promise 15";
         SetAsMeant x = pressOf("lAB sACD bA");
         x.hush(0, 1);
         due("swap(0, 2)", x.swap(0, 2), 1);
@@ -598,7 +500,7 @@ public final class PromisesTest {
     }
 
     private static void set() {
-        promise = 16;
+        where = "promise 16";
         comes("", "", "");
         comes("", "ABCDEFAB", "ABCDEFAB");
         comes("lAB", "ABA", "BBB");
@@ -633,7 +535,7 @@ public final class PromisesTest {
     }
 
     private static void by() {
-        promise = 17;
+        where = "promise 17";
         SetAsMeant x = pressOf("sABC lAD uCAF bE");
         sheet(x, 0, "ACAEFC");
         int[] want = {0, NONE, 1, 3, NONE, 2};
@@ -658,7 +560,7 @@ public final class PromisesTest {
     }
 
     private static void first() {
-        promise = 18;
+        where = "promise 18";
         firstOf("lAB", "", NONE);
         firstOf("lAB", "CDEF", NONE);
         firstOf("lAA", "AA", NONE);
@@ -680,7 +582,7 @@ public final class PromisesTest {
     }
 
     private static void again() {
-        promise = 19;
+        where = "promise 19";
         SetAsMeant x = sheet(pressOf("lAB lBC"), 0, "AB");
         String[] want = {"AB", "BC", "CC", "CC"};
         for (int n = 0; n < want.length; n++) {
@@ -713,7 +615,7 @@ public final class PromisesTest {
     }
 
     private static void rests() {
-        promise = 20;
+        where = "promise 20";
         restsOf("", "ABC", 0, 1);
         restsOf("lAB", "", 0, 1);
         restsOf("lAB", "A", 1, 1);
@@ -741,7 +643,7 @@ public final class PromisesTest {
     }
 
     private static void same() {
-        promise = 21;
+        where = "promise 21";
         SetAsMeant x = pressOf("lAB bC");
         sheet(x, 0, "ACA");
         sheet(x, 1, "BB");
@@ -775,7 +677,7 @@ public final class PromisesTest {
     }
 
     private static void meant() {
-        promise = 22;
+        where = "promise 22";
         meantOf("", "", 1, 0, 0, 0, 0, 0, 0);
         meantOf("", "AB", 0, 0, 1, 0, 0, 0, 0);
         meantOf("bA", "", 1, 1, 1, 1, 1, 1, 1);
@@ -809,7 +711,7 @@ public final class PromisesTest {
     }
 
     private static void smallest() {
-        promise = 23;
+        where = "promise 23";
         smallestOf("", "", "");
         smallestOf("", "FEDCBA", "FEDCBA");
         smallestOf("lAB", "B", "A");
@@ -846,7 +748,7 @@ public final class PromisesTest {
     }
 
     private static void outs() {
-        promise = 24;
+        where = "promise 24";
         outsOf("", 1, 6, 36, 216, 1296);
         outsOf("lAB", 1, 5, 25, 125, 625);
         outsOf("bA", 1, 6, 31, 156, 781);
@@ -878,7 +780,7 @@ public final class PromisesTest {
     }
 
     private static void twins() {
-        promise = 25;
+        where = "promise 25";
         twinsOf("", 0, null);
         twinsOf("", 1, null);
         twinsOf("", 4, null);
@@ -917,7 +819,7 @@ public final class PromisesTest {
     }
 
     private static void harmless() {
-        promise = 26;
+        where = "promise 26";
         harmlessOf("", 0, 0, 1);
         harmlessOf("", 63, 0, 1);
         harmlessOf("", 0, 6, 46656);
@@ -943,7 +845,7 @@ public final class PromisesTest {
     }
 
     private static void believed() {
-        promise = 27;
+        where = "promise 27";
         SetAsMeant x = sheet(pressOf("lAB lBC"), 0, "C");
         String[] want = {"C", "B", "A"};
         for (int depth = 0; depth < 3; depth++) {
@@ -978,7 +880,7 @@ public final class PromisesTest {
     }
 
     private static void forbid() {
-        promise = 28;
+        where = "promise 28";
         forbidOf("", "A", 1, 1);
         forbidOf("", "FE", 1, 16);
         forbidOf("", "ABCD", 1, 1);
@@ -1030,10 +932,6 @@ public final class PromisesTest {
         int answer(int r, int q);
     }
 
-    private static SetAsMeant pair(String press, String written, String out) {
-        return sheet(sheet(pressOf(press), 0, written), 1, out);
-    }
-
     private static void silenceOf(String press, String written, String out, int want, int which) {
         SetAsMeant x = pair(press, written, out);
         due(press + ": silence of " + written + " as " + out, x.silence(0, 1), want);
@@ -1041,7 +939,7 @@ public final class PromisesTest {
     }
 
     private static void silence() {
-        promise = 29;
+        where = "promise 29";
         silenceOf("", "AB", "AB", 0, 0);
         silenceOf("lAB", "A", "B", 0, 0);
         silenceOf("lAB", "A", "A", 1, 1);
@@ -1075,7 +973,7 @@ public final class PromisesTest {
     }
 
     private static void which() {
-        promise = 30;
+        where = "promise 30";
         whichOf("", "A", "A", 1, 0);
         whichOf("", "A", "B", 0, NONE);
         whichOf("lAB lAC", "A", "A", 1, 0);
@@ -1095,7 +993,7 @@ public final class PromisesTest {
     }
 
     private static void kinds() {
-        promise = 31;
+        where = "promise 31";
         kindsOf("lAB", 0, "A", "B", 1 | 16);
         kindsOf("lAB", 0, "A", "", 2);
         kindsOf("lAB", 0, "A", "AB", 4);
@@ -1134,7 +1032,7 @@ public final class PromisesTest {
     }
 
     private static void odds() {
-        promise = 32;
+        where = "promise 32";
         oddsOf("", "A", "A", 5, 1, 1);
         oddsOf("", "A", "B", 5, 0, 1);
         oddsOf("lAB", "A", "B", 3, 3, 4);
@@ -1168,7 +1066,7 @@ public final class PromisesTest {
     }
 
     private static void mid() {
-        promise = 33;
+        where = "promise 33";
         midOf("", "ABC", 5, 3, 1);
         midOf("lAB", "", 5, 0, 1);
         midOf("bA", "A", 3, 1, 4);
@@ -1191,7 +1089,7 @@ public final class PromisesTest {
     // ---- 6 printed truly
 
     private static void print() {
-        promise = 34;
+        where = "promise 34";
         SetAsMeant x = sheet(pressOf("dAB bC"), 0, "AC");
         due("print(0)", x.print(0), 2);
         due("DEEDS", x.count(2), 1);
@@ -1219,7 +1117,7 @@ public final class PromisesTest {
     }
 
     private static void ink() {
-        promise = 35;
+        where = "promise 35";
         SetAsMeant x = sheet(pressOf("lAB iEF"), 0, "ABAEE");
         x.print(0);
         x.print(0);
@@ -1232,7 +1130,7 @@ public final class PromisesTest {
     }
 
     private static void undo() {
-        promise = 36;
+        where = "promise 36";
         SetAsMeant x = pressOf("lAB");
         sheet(x, 0, "A");
         sheet(x, 1, "CC");
@@ -1260,7 +1158,7 @@ public final class PromisesTest {
     }
 
     private static void drawer() {
-        promise = 37;
+        where = "promise 37";
         SetAsMeant x = sheet(pressOf("dAB"), 0, "AAAAAAAA");
         x.print(0);
         sheet(x, 0, "C");
@@ -1297,7 +1195,7 @@ public final class PromisesTest {
     }
 
     private static void lots() {
-        promise = 38;
+        where = "promise 38";
         SetAsMeant none = new SetAsMeant();
         due("lots(20, 1) without laws", none.lots(20, 1), 20);
         due("lots(1, 2147483646) without laws", none.lots(1, 2147483646), 1);
@@ -1318,7 +1216,7 @@ public final class PromisesTest {
     }
 
     private static void keep() {
-        promise = 39;
+        where = "promise 39";
         SetAsMeant x = new SetAsMeant();
         still(x, "keep(0) without laws", STATE, () -> x.keep(0));
         bad(x, "keep(3), ahead of STATE", () -> x.keep(3));
@@ -1337,7 +1235,7 @@ public final class PromisesTest {
     }
 
     private static void on() {
-        promise = 40;
+        where = "promise 40";
         SetAsMeant x = sheet(pressOf("lAB bC dDE"), 0, "AD");
         found(x, "on(0)", NOTHING, () -> x.on(0));
         x.hush(1, 1);
@@ -1374,7 +1272,7 @@ public final class PromisesTest {
     // ---- 7 what is told
 
     private static void asked() {
-        promise = 41;
+        where = "promise 41";
         SetAsMeant x = new SetAsMeant();
         due("asked() before", x.asked(), 0);
         textOf(x, 0, "lAB lBA");
@@ -1414,19 +1312,19 @@ public final class PromisesTest {
     }
 
     private static void upperAndLower() {
-        promise = 42;
+        where = "promise 42";
         SetAsMeant x = new SetAsMeant();
         due("upper() before", x.upper(), 0);
-        promise = 43;
+        where = "promise 43";
         due("lower() before", x.lower(), 1);
         textOf(x, 0, "lAB");
         x.press(0);
         sheet(x, 0, "AA");
         sheet(x, 1, "BB");
         x.odds(0, 1, 4);
-        promise = 42;
+        where = "promise 42";
         due("upper() of odds", x.upper(), 2);
-        promise = 43;
+        where = "promise 43";
         due("lower() of odds", x.lower(), 3);
         x.which(0, 1);
         x.silence(0, 1);
@@ -1436,26 +1334,26 @@ public final class PromisesTest {
         x.mid(0, 13);
         x.meant(5, 1);
         x.harmless(64, 1);
-        promise = 42;
+        where = "promise 42";
         due("upper() of no other", x.upper(), 2);
-        promise = 43;
+        where = "promise 43";
         due("lower() of no other", x.lower(), 3);
         x.mid(0, 4);
-        promise = 42;
+        where = "promise 42";
         due("upper() of mid", x.upper(), 2);
-        promise = 43;
+        where = "promise 43";
         due("lower() of mid", x.lower(), 1);
         x.meant(1, 2);
-        promise = 42;
+        where = "promise 42";
         due("upper() of meant", x.upper(), 4);
         x.harmless(1, 3);
         due("upper() of harmless", x.upper(), 216);
-        promise = 43;
+        where = "promise 43";
         due("lower() of harmless", x.lower(), 1);
     }
 
     private static void count() {
-        promise = 44;
+        where = "promise 44";
         SetAsMeant x = pressOf("lAB bC dDE sEFA uBAC iFA dAA");
         x.hush(2, 1);
         x.hush(3, 1);
@@ -1477,7 +1375,7 @@ public final class PromisesTest {
     }
 
     private static void finding() {
-        promise = 45;
+        where = "promise 45";
         SetAsMeant x = new SetAsMeant();
         due("finding() before", x.finding(), 0);
         x.at(0, 0);
@@ -1497,7 +1395,7 @@ public final class PromisesTest {
         x.set(0, 1);
         due("finding() of set", x.finding(), UNLIKE);
         x.copy(0, 0, 2, 0, 0);
-        promise = 46;
+        where = "promise 46";
         int[] want = {0, 2, 1, 1, 1, 1};
         for (int f = 1; f <= 5; f++) {
             due("findings(" + f + ")", x.findings(f), want[f]);
@@ -1516,7 +1414,7 @@ public final class PromisesTest {
     }
 
     private static void digest() {
-        promise = 47;
+        where = "promise 47";
         SetAsMeant x = new SetAsMeant();
         due("digest() of a new object", x.digest(), mixed(
             0, 0, 0, 0, 0, 0, 0, 0, 0,
