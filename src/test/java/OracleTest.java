@@ -12,7 +12,8 @@ import java.util.Set;
  * document word by word and tries every sheet; all that can be asked for is compared on the way.
  */
 public final class OracleTest {
-    private static final int MOST_CALLS = 512;
+    /** Nothing is promised behind the 512th call: a new PRESS takes up to 63, all that is told 10 more. */
+    private static final int MOST_CALLS = 512, LAST_CALLS = 80;
     private static final Map<String, Integer> WENT_THROUGH = new HashMap<>();
     private static int wrong = 0;
 
@@ -21,6 +22,7 @@ public final class OracleTest {
     private final SetAsMeant x = new SetAsMeant();
     private final Plain y = new Plain();
     private final List<String> calls = new ArrayList<>();
+    private int made = 0;
     private boolean failed = false;
 
     private OracleTest(int seed) {
@@ -29,7 +31,7 @@ public final class OracleTest {
     }
 
     public static void main(String[] args) {
-        int runs = args.length > 0 ? Integer.parseInt(args[0]) : 600;
+        int runs = args.length > 0 ? Integer.parseInt(args[0]) : 800;
         for (int seed = 0; seed < runs && wrong < 10; seed++) {
             new OracleTest(seed).run();
         }
@@ -55,7 +57,7 @@ public final class OracleTest {
         for (int r = 0; r < 4; r++) {
             newSheet(r);
         }
-        while (!failed && calls.size() < MOST_CALLS - 80) {
+        while (!failed && made < MOST_CALLS - LAST_CALLS) {
             int roll = chance.nextInt(100);
             if (roll < 1) {
                 newPress();
@@ -182,7 +184,7 @@ public final class OracleTest {
         if (want >= 0) {
             WENT_THROUGH.merge(name, 1, Integer::sum);
         }
-        int roll = chance.nextInt(4);
+        int roll = made < MOST_CALLS - LAST_CALLS ? chance.nextInt(4) : 3;
         if (roll == 0) {
             due("asked", x.asked(), y.asked);
         } else if (roll == 1) {
@@ -204,7 +206,9 @@ public final class OracleTest {
         due("digest", x.digest(), y.digest());
     }
 
+    /** Every call is held against what is due, so they are counted here. */
     private void due(String name, long got, long want) {
+        made++;
         if (got != want && !failed) {
             failed = true;
             wrong++;

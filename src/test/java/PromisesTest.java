@@ -379,7 +379,7 @@ public final class PromisesTest extends Bench {
 
     private static void mark() {
         where = "promise 13";
-        SetAsMeant x = pressOf("lAB bC dDE sEFA uBAC iFA");
+        String press = "lAB bC dDE sEFA uBAC iFA";
         String kinds = "lbdsui";
         boolean[][] is = new boolean[6][6];
         for (int k = 0; k < 6; k++) {
@@ -389,6 +389,7 @@ public final class PromisesTest extends Bench {
         is[5][2] = true;
         for (int k = 0; k < 6; k++) {
             int law = k;
+            SetAsMeant x = pressOf(press);
             bad(x, "mark(" + k + ", 0)", () -> x.mark(law, 0));
             bad(x, "mark(" + k + ", 6)", () -> x.mark(law, 6));
             bad(x, "mark(" + k + ", -1)", () -> x.mark(law, -1));
@@ -402,8 +403,9 @@ public final class PromisesTest extends Bench {
                 }
             }
         }
-        bad(x, "mark(6, 1)", () -> x.mark(6, 1));
-        bad(x, "mark(-1, 1)", () -> x.mark(-1, 1));
+        SetAsMeant y = pressOf(press);
+        bad(y, "mark(6, 1)", () -> y.mark(6, 1));
+        bad(y, "mark(-1, 1)", () -> y.mark(-1, 1));
         markOfBlotsAndDoubles();
         markOfShyOnes();
         markOfInkedOnes();
