@@ -36,8 +36,8 @@ public final class OracleTest {
             new OracleTest(seed).run();
         }
         for (String call : CALLS) {
-            if (WENT_THROUGH.getOrDefault(call, 0) < runs / 4) {
-                System.out.println(call + " went through only " + WENT_THROUGH.get(call) + " times");
+            if (WENT_THROUGH.getOrDefault(call, 0) < runs / 8) {
+                System.out.println(call + " went through only " + WENT_THROUGH.getOrDefault(call, 0) + " times");
                 wrong++;
             }
         }
